@@ -56,6 +56,10 @@ public final class AddressesAndPowerTest {
         Check.due(false, "9: lamp 2 dies", () -> plot.bulb(2));
         Check.due(1, "9: a dead one has them still", () -> plot.patch(3, 23));
         Check.due(0, "9: right behind", () -> plot.patch(3, 24));
+        Check.due(0, "9: address 0", () -> plot.patch(0, 0));
+        Check.due(1, "9: address 0 of two", () -> plot.patch(3, 0));
+        Check.due(0, "9: address 99", () -> plot.patch(3, 99));
+        Check.due(1, "9: address 99 of two", () -> plot.patch(2, 96));
     }
 
     private static void patchWrong() {

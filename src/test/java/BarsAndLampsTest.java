@@ -214,6 +214,9 @@ public final class BarsAndLampsTest {
         Check.due(3, "6: onBar(0, 1)", () -> plot.onBar(0, 1));
         Check.due(0, "6: onBar(0, 2)", () -> plot.onBar(0, 2));
         Check.due(2, "6: onBar(1, 0)", () -> plot.onBar(1, 0));
+        plot.hang(0, 0, 4);
+        Check.due(0, "6: lamp 0 below lamp 3", () -> plot.onBar(0, 1));
+        Check.due(3, "6: lamp 3 above lamp 0", () -> plot.onBar(0, 2));
         Check.refused(INDEX, plot, "6: rank 3", () -> plot.onBar(0, 3));
         Check.refused(INDEX, plot, "6: rank -1", () -> plot.onBar(0, -1));
         Check.refused(INDEX, plot, "6: bar -1", () -> plot.onBar(-1, 0));
@@ -250,6 +253,12 @@ public final class BarsAndLampsTest {
         Check.due(40, "8: a place beyond the end", () -> plot.where(0));
         Check.due(37, "8: the nearest below it", () -> plot.where(1));
         Check.due(1100, "8: its own place", () -> plot.where(2));
+        PlotPatch far = withLamps(0);
+        far.bar(0, 100, 100);
+        far.bar(1, 0, 100);
+        far.hang(0, 0, 100);
+        Check.due(0, "8: it hangs", far::tour);
+        Check.due(0, "8: as far away as can be", () -> far.where(0));
     }
 
     private static void tourPushed() {

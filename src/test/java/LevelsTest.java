@@ -10,6 +10,7 @@ public final class LevelsTest {
         levelsWrong();
         bulbs();
         standIns();
+        standInAll();
         standInBegun();
         standInWrong();
         colours();
@@ -104,6 +105,20 @@ public final class LevelsTest {
         Check.due(30, "22: the third one", () -> plot.name(0, 2, 30));
         Check.due(0, "22: nothing is left", () -> plot.standIn(0, 1));
         Check.due(30, "22: it names it still", () -> plot.name(0, 1, 30));
+    }
+
+    private static void standInAll() {
+        PlotPatch plot = lit(10, 30);
+        for (int cue = 1; cue < 8; cue++) {
+            plot.cue(0, 0, NONE);
+            plot.name(cue, 9, cue);
+        }
+        plot.bulb(9);
+        Check.due(8, "22: in all eight cues", () -> plot.standIn(9, 8));
+        for (int cue = 1; cue < 8; cue++) {
+            int c = cue;
+            Check.due(c, "22: each with its level", () -> plot.name(c, 8, c));
+        }
     }
 
     private static void standInBegun() {
