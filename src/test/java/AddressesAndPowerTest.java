@@ -36,7 +36,7 @@ public final class AddressesAndPowerTest {
             Check.due(0, "9: the highest", () -> plot.patch(0, 100 - width));
             Check.due(0, "9: below it is room", () -> plot.gap(100 - width));
             Check.due(NONE, "9: and no more", () -> plot.gap(101 - width));
-            Check.refused(ARGUMENT, plot, "9: too high", () -> plot.patch(0, 101 - width));
+            Check.refused(ARGUMENT, "9: too high", () -> plot.patch(0, 101 - width));
         }
     }
 
@@ -65,11 +65,11 @@ public final class AddressesAndPowerTest {
     private static void patchWrong() {
         PlotPatch plot = withLamps(3);
         plot.patch(0, 5);
-        Check.refused(INDEX, plot, "9: lamp -1", () -> plot.patch(-1, 0));
-        Check.refused(INDEX, plot, "9: lamp 1", () -> plot.patch(1, 0));
-        Check.refused(INDEX, plot, "9: lamp 1 and out of range", () -> plot.patch(1, 100));
-        Check.refused(ARGUMENT, plot, "9: first -2", () -> plot.patch(0, -2));
-        Check.refused(ARGUMENT, plot, "9: first 89", () -> plot.patch(0, 89));
+        Check.refused(INDEX, "9: lamp -1", () -> plot.patch(-1, 0));
+        Check.refused(INDEX, "9: lamp 1", () -> plot.patch(1, 0));
+        Check.refused(INDEX, "9: lamp 1 and out of range", () -> plot.patch(1, 100));
+        Check.refused(ARGUMENT, "9: first -2", () -> plot.patch(0, -2));
+        Check.refused(ARGUMENT, "9: first 89", () -> plot.patch(0, 89));
     }
 
     private static void gaps() {
@@ -93,9 +93,9 @@ public final class AddressesAndPowerTest {
 
     private static void gapWrong() {
         PlotPatch plot = withLamps(0);
-        Check.refused(ARGUMENT, plot, "10: gap(0)", () -> plot.gap(0));
-        Check.refused(ARGUMENT, plot, "10: gap(-1)", () -> plot.gap(-1));
-        Check.refused(ARGUMENT, plot, "10: gap(101)", () -> plot.gap(101));
+        Check.refused(ARGUMENT, "10: gap(0)", () -> plot.gap(0));
+        Check.refused(ARGUMENT, "10: gap(-1)", () -> plot.gap(-1));
+        Check.refused(ARGUMENT, "10: gap(101)", () -> plot.gap(101));
     }
 
     private static void plugs() {
@@ -111,10 +111,10 @@ public final class AddressesAndPowerTest {
     private static void plugWrong() {
         PlotPatch plot = withLamps(0);
         plot.plug(0, 2);
-        Check.refused(INDEX, plot, "11: lamp -1", () -> plot.plug(-1, 0));
-        Check.refused(INDEX, plot, "11: lamp 1", () -> plot.plug(1, NONE));
-        Check.refused(INDEX, plot, "11: circuit 4", () -> plot.plug(0, 4));
-        Check.refused(INDEX, plot, "11: circuit -2", () -> plot.plug(0, -2));
+        Check.refused(INDEX, "11: lamp -1", () -> plot.plug(-1, 0));
+        Check.refused(INDEX, "11: lamp 1", () -> plot.plug(1, NONE));
+        Check.refused(INDEX, "11: circuit 4", () -> plot.plug(0, 4));
+        Check.refused(INDEX, "11: circuit -2", () -> plot.plug(0, -2));
         Check.due(2, "11: it is where it was", () -> plot.plug(0, 0));
     }
 
@@ -159,7 +159,7 @@ public final class AddressesAndPowerTest {
         Check.due(1000, "12: one is dead", () -> plot.load(1));
         plot.down(1);
         Check.due(500, "12: one does not hang", () -> plot.load(1));
-        Check.refused(INDEX, plot, "12: circuit -1", () -> plot.load(-1));
-        Check.refused(INDEX, plot, "12: circuit 4", () -> plot.load(4));
+        Check.refused(INDEX, "12: circuit -1", () -> plot.load(-1));
+        Check.refused(INDEX, "12: circuit 4", () -> plot.load(4));
     }
 }

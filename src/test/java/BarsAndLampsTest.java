@@ -37,10 +37,10 @@ public final class BarsAndLampsTest {
 
     private static void newObject() {
         PlotPatch plot = new PlotPatch();
-        Check.refused(INDEX, plot, "1: where(0)", () -> plot.where(0));
-        Check.refused(INDEX, plot, "1: onBar(0, 0)", () -> plot.onBar(0, 0));
-        Check.refused(INDEX, plot, "1: name(0, 0, 0)", () -> plot.name(0, 0, 0));
-        Check.refused(STATE, plot, "1: go()", plot::go);
+        Check.refused(INDEX, "1: where(0)", () -> plot.where(0));
+        Check.refused(INDEX, "1: onBar(0, 0)", () -> plot.onBar(0, 0));
+        Check.refused(INDEX, "1: name(0, 0, 0)", () -> plot.name(0, 0, 0));
+        Check.refused(STATE, "1: go()", plot::go);
         Check.due(0, "1: burnt()", plot::burnt);
         Check.due(0, "1: rewind()", plot::rewind);
         Check.due(0, "1: tick(50)", () -> plot.tick(50));
@@ -51,31 +51,31 @@ public final class BarsAndLampsTest {
         }
         plot.lamp(0, 0);
         plot.bar(1, 10, 10);
-        Check.refused(INDEX, plot, "1: hang on a bar of house 1", () -> plot.hang(0, 0, 0));
+        Check.refused(INDEX, "1: hang on a bar of house 1", () -> plot.hang(0, 0, 0));
         plot.bar(0, 10, 10);
         Check.due(4, "1: hang on a bar of house 0", () -> plot.hang(0, 0, 0));
         PlotPatch other = new PlotPatch();
-        Check.refused(INDEX, other, "1: another object has no lamp", () -> other.level(0));
+        Check.refused(INDEX, "1: another object has no lamp", () -> other.level(0));
     }
 
     private static void bars() {
         PlotPatch plot = withLamps(PlotPatch.PAR);
-        Check.refused(INDEX, plot, "2: bar(-1, 0, 1)", () -> plot.bar(-1, 0, 1));
-        Check.refused(INDEX, plot, "2: bar(2, 0, 1)", () -> plot.bar(2, 0, 1));
-        Check.refused(INDEX, plot, "2: bar(2, -1, 0)", () -> plot.bar(2, -1, 0));
-        Check.refused(ARGUMENT, plot, "2: bar(0, -1, 1)", () -> plot.bar(0, -1, 1));
-        Check.refused(ARGUMENT, plot, "2: bar(0, 101, 1)", () -> plot.bar(0, 101, 1));
-        Check.refused(ARGUMENT, plot, "2: bar(0, 0, 0)", () -> plot.bar(0, 0, 0));
-        Check.refused(ARGUMENT, plot, "2: bar(0, 0, 501)", () -> plot.bar(0, 0, 501));
+        Check.refused(INDEX, "2: bar(-1, 0, 1)", () -> plot.bar(-1, 0, 1));
+        Check.refused(INDEX, "2: bar(2, 0, 1)", () -> plot.bar(2, 0, 1));
+        Check.refused(INDEX, "2: bar(2, -1, 0)", () -> plot.bar(2, -1, 0));
+        Check.refused(ARGUMENT, "2: bar(0, -1, 1)", () -> plot.bar(0, -1, 1));
+        Check.refused(ARGUMENT, "2: bar(0, 101, 1)", () -> plot.bar(0, 101, 1));
+        Check.refused(ARGUMENT, "2: bar(0, 0, 0)", () -> plot.bar(0, 0, 0));
+        Check.refused(ARGUMENT, "2: bar(0, 0, 501)", () -> plot.bar(0, 0, 501));
         Check.due(0, "2: bar(0, 0, 1)", () -> plot.bar(0, 0, 1));
         Check.due(1, "2: bar(0, 100, 500)", () -> plot.bar(0, 100, 500));
-        Check.refused(STATE, plot, "2: the limit 1 counts", () -> plot.hang(0, 0, 0));
+        Check.refused(STATE, "2: the limit 1 counts", () -> plot.hang(0, 0, 0));
         Check.due(4, "2: the length 100 counts", () -> plot.hang(0, 1, 100));
         Check.due(2, "2: bar(0, 50, 50)", () -> plot.bar(0, 50, 50));
         Check.due(3, "2: bar(0, 50, 50)", () -> plot.bar(0, 50, 50));
-        Check.refused(STATE, plot, "2: a fifth bar", () -> plot.bar(0, 50, 50));
-        Check.refused(ARGUMENT, plot, "2: a fifth bar too long", () -> plot.bar(0, 101, 50));
-        Check.refused(INDEX, plot, "2: a fifth bar nowhere", () -> plot.bar(-1, 50, 50));
+        Check.refused(STATE, "2: a fifth bar", () -> plot.bar(0, 50, 50));
+        Check.refused(ARGUMENT, "2: a fifth bar too long", () -> plot.bar(0, 101, 50));
+        Check.refused(INDEX, "2: a fifth bar nowhere", () -> plot.bar(-1, 50, 50));
     }
 
     private static void barsPerHouse() {
@@ -85,33 +85,33 @@ public final class BarsAndLampsTest {
             Check.due(n, "2: bar in house 0", () -> plot.bar(0, 10 + n, 100));
             Check.due(n, "2: bar in house 1", () -> plot.bar(1, 20 + n, 100));
         }
-        Check.refused(STATE, plot, "2: house 1 is full", () -> plot.bar(1, 50, 50));
+        Check.refused(STATE, "2: house 1 is full", () -> plot.bar(1, 50, 50));
         for (int number = 0; number < 4; number++) {
             int n = number;
-            Check.refused(INDEX, plot, "2: past the end", () -> plot.hang(0, n, 11 + n));
+            Check.refused(INDEX, "2: past the end", () -> plot.hang(0, n, 11 + n));
             Check.due(4, "2: at the end", () -> plot.hang(0, n, 10 + n));
         }
         Check.due(0, "2: tour", plot::tour);
         for (int number = 0; number < 4; number++) {
             int n = number;
-            Check.refused(INDEX, plot, "2: past the end in 1", () -> plot.hang(0, n, 21 + n));
+            Check.refused(INDEX, "2: past the end in 1", () -> plot.hang(0, n, 21 + n));
             Check.due(4, "2: at the end in 1", () -> plot.hang(0, n, 20 + n));
         }
     }
 
     private static void lamps() {
         PlotPatch plot = new PlotPatch();
-        Check.refused(ARGUMENT, plot, "3: lamp(-1, 0)", () -> plot.lamp(-1, 0));
-        Check.refused(ARGUMENT, plot, "3: lamp(4, 0)", () -> plot.lamp(4, 0));
-        Check.refused(ARGUMENT, plot, "3: lamp(0, -1)", () -> plot.lamp(0, -1));
-        Check.refused(ARGUMENT, plot, "3: lamp(0, 21)", () -> plot.lamp(0, 21));
+        Check.refused(ARGUMENT, "3: lamp(-1, 0)", () -> plot.lamp(-1, 0));
+        Check.refused(ARGUMENT, "3: lamp(4, 0)", () -> plot.lamp(4, 0));
+        Check.refused(ARGUMENT, "3: lamp(0, -1)", () -> plot.lamp(0, -1));
+        Check.refused(ARGUMENT, "3: lamp(0, 21)", () -> plot.lamp(0, 21));
         for (int number = 0; number < 10; number++) {
             int n = number;
             Check.due(n, "3: lamp", () -> plot.lamp(n % 4, 2 * n + 2));
         }
-        Check.refused(STATE, plot, "3: an eleventh lamp", () -> plot.lamp(0, 0));
-        Check.refused(ARGUMENT, plot, "3: an eleventh lamp of no kind", () -> plot.lamp(4, 0));
-        Check.refused(ARGUMENT, plot, "3: an eleventh lamp of no colour", () -> plot.lamp(0, 21));
+        Check.refused(STATE, "3: an eleventh lamp", () -> plot.lamp(0, 0));
+        Check.refused(ARGUMENT, "3: an eleventh lamp of no kind", () -> plot.lamp(4, 0));
+        Check.refused(ARGUMENT, "3: an eleventh lamp of no colour", () -> plot.lamp(0, 21));
         for (int number = 0; number < 10; number++) {
             int n = number;
             Check.due(2 * n + 2, "3: its colour", () -> plot.colour(n, 0));
@@ -138,7 +138,7 @@ public final class BarsAndLampsTest {
         Check.due(4, "4: hang(0, 0, 10)", () -> plot.hang(0, 0, 10));
         for (int place = 8; place <= 12; place++) {
             int p = place;
-            Check.refused(STATE, plot, "4: too near at " + p, () -> plot.hang(1, 0, p));
+            Check.refused(STATE, "4: too near at " + p, () -> plot.hang(1, 0, p));
         }
         Check.due(8, "4: 3 below", () -> plot.hang(1, 0, 7));
         Check.due(8, "4: 3 above", () -> plot.hang(1, 0, 13));
@@ -152,9 +152,9 @@ public final class BarsAndLampsTest {
         plot.bar(0, 20, 12);
         Check.due(9, "4: alone", () -> plot.hang(0, 0, 0));
         Check.due(13, "4: just the limit", () -> plot.hang(1, 0, 10));
-        Check.refused(STATE, plot, "4: above the limit", () -> plot.hang(2, 0, 20));
+        Check.refused(STATE, "4: above the limit", () -> plot.hang(2, 0, 20));
         Check.due(4, "4: another bar bears it", () -> plot.hang(2, 1, 20));
-        Check.refused(STATE, plot, "4: one above the limit", () -> plot.hang(0, 1, 0));
+        Check.refused(STATE, "4: one above the limit", () -> plot.hang(0, 1, 0));
         Check.due(0, "4: it hangs where it hung", () -> plot.where(0));
     }
 
@@ -169,7 +169,7 @@ public final class BarsAndLampsTest {
         Check.due(25, "4: on the other bar", () -> plot.hang(0, 1, 5));
         Check.due(1005, "4: it hangs there then", () -> plot.where(0));
         Check.due(4, "4: the former place is free", () -> plot.hang(1, 0, 6));
-        Check.refused(STATE, plot, "4: taken by then", () -> plot.hang(0, 0, 6));
+        Check.refused(STATE, "4: taken by then", () -> plot.hang(0, 0, 6));
     }
 
     private static void hangWrong() {
@@ -177,14 +177,14 @@ public final class BarsAndLampsTest {
         plot.bar(0, 10, 20);
         plot.bar(1, 50, 500);
         plot.bar(1, 50, 500);
-        Check.refused(INDEX, plot, "4: lamp -1", () -> plot.hang(-1, 0, 0));
-        Check.refused(INDEX, plot, "4: lamp 2", () -> plot.hang(2, 0, 0));
-        Check.refused(INDEX, plot, "4: bar -1", () -> plot.hang(1, -1, 0));
-        Check.refused(INDEX, plot, "4: bar 1", () -> plot.hang(1, 1, 0));
-        Check.refused(INDEX, plot, "4: place -1", () -> plot.hang(1, 0, -1));
-        Check.refused(INDEX, plot, "4: place 11", () -> plot.hang(1, 0, 11));
-        Check.refused(INDEX, plot, "4: place 11 and too heavy", () -> plot.hang(0, 0, 11));
-        Check.refused(STATE, plot, "4: too heavy", () -> plot.hang(0, 0, 0));
+        Check.refused(INDEX, "4: lamp -1", () -> plot.hang(-1, 0, 0));
+        Check.refused(INDEX, "4: lamp 2", () -> plot.hang(2, 0, 0));
+        Check.refused(INDEX, "4: bar -1", () -> plot.hang(1, -1, 0));
+        Check.refused(INDEX, "4: bar 1", () -> plot.hang(1, 1, 0));
+        Check.refused(INDEX, "4: place -1", () -> plot.hang(1, 0, -1));
+        Check.refused(INDEX, "4: place 11", () -> plot.hang(1, 0, 11));
+        Check.refused(INDEX, "4: place 11 and too heavy", () -> plot.hang(0, 0, 11));
+        Check.refused(STATE, "4: too heavy", () -> plot.hang(0, 0, 0));
         Check.due(4, "4: at the end", () -> plot.hang(1, 0, 10));
     }
 
@@ -197,15 +197,15 @@ public final class BarsAndLampsTest {
         Check.due(NONE, "5: it hangs no more", () -> plot.where(0));
         Check.due(false, "5: not twice", () -> plot.down(0));
         Check.due(4, "5: its place is free", () -> plot.hang(1, 0, 4));
-        Check.refused(INDEX, plot, "5: lamp -1", () -> plot.down(-1));
-        Check.refused(INDEX, plot, "5: lamp 2", () -> plot.down(2));
+        Check.refused(INDEX, "5: lamp -1", () -> plot.down(-1));
+        Check.refused(INDEX, "5: lamp 2", () -> plot.down(2));
     }
 
     private static void onBar() {
         PlotPatch plot = withLamps(0, 0, 0, 0);
         plot.bar(0, 30, 100);
         plot.bar(0, 30, 100);
-        Check.refused(INDEX, plot, "6: an empty bar", () -> plot.onBar(0, 0));
+        Check.refused(INDEX, "6: an empty bar", () -> plot.onBar(0, 0));
         plot.hang(0, 0, 20);
         plot.hang(1, 0, 0);
         plot.hang(2, 1, 5);
@@ -217,12 +217,12 @@ public final class BarsAndLampsTest {
         plot.hang(0, 0, 4);
         Check.due(0, "6: lamp 0 below lamp 3", () -> plot.onBar(0, 1));
         Check.due(3, "6: lamp 3 above lamp 0", () -> plot.onBar(0, 2));
-        Check.refused(INDEX, plot, "6: rank 3", () -> plot.onBar(0, 3));
-        Check.refused(INDEX, plot, "6: rank -1", () -> plot.onBar(0, -1));
-        Check.refused(INDEX, plot, "6: bar -1", () -> plot.onBar(-1, 0));
-        Check.refused(INDEX, plot, "6: bar 2", () -> plot.onBar(2, 0));
+        Check.refused(INDEX, "6: rank 3", () -> plot.onBar(0, 3));
+        Check.refused(INDEX, "6: rank -1", () -> plot.onBar(0, -1));
+        Check.refused(INDEX, "6: bar -1", () -> plot.onBar(-1, 0));
+        Check.refused(INDEX, "6: bar 2", () -> plot.onBar(2, 0));
         plot.tour();
-        Check.refused(INDEX, plot, "6: no bar of that house", () -> plot.onBar(0, 0));
+        Check.refused(INDEX, "6: no bar of that house", () -> plot.onBar(0, 0));
     }
 
     private static void where() {
@@ -236,8 +236,8 @@ public final class BarsAndLampsTest {
         plot.hang(0, 0, 0);
         Check.due(0, "7: the first place", () -> plot.where(0));
         Check.due(NONE, "7: the other one", () -> plot.where(1));
-        Check.refused(INDEX, plot, "7: lamp -1", () -> plot.where(-1));
-        Check.refused(INDEX, plot, "7: lamp 2", () -> plot.where(2));
+        Check.refused(INDEX, "7: lamp -1", () -> plot.where(-1));
+        Check.refused(INDEX, "7: lamp 2", () -> plot.where(2));
     }
 
     private static void tourNearest() {
@@ -348,6 +348,6 @@ public final class BarsAndLampsTest {
         plot.bar(0, 0, 4);
         Check.due(0, "8: to house 0", plot::tour);
         Check.due(0, "8: the only place", () -> plot.where(0));
-        Check.refused(INDEX, plot, "8: the bars of house 0", () -> plot.hang(0, 0, 1));
+        Check.refused(INDEX, "8: the bars of house 0", () -> plot.hang(0, 0, 1));
     }
 }

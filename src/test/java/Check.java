@@ -22,11 +22,9 @@ final class Check {
         }
     }
 
-    /** The call throws just this exception, and the plot answers the same before and after. */
-    static void refused(Class<?> kind, PlotPatch plot, String what, Call call) {
-        String before = looks(plot);
+    /** The call throws just this exception; that it changes nothing is for Twins to see. */
+    static void refused(Class<?> kind, String what, Call call) {
         due("throws " + kind.getName(), what, call);
-        due(before, what + " (what it has changed)", () -> looks(plot));
     }
 
     static Object answer(Call call) {
@@ -35,31 +33,6 @@ final class Check {
         } catch (RuntimeException e) {
             return "throws " + e.getClass().getName();
         }
-    }
-
-    /** All that can be seen of a plot by calls that change nothing. */
-    static String looks(PlotPatch plot) {
-        StringBuilder text = new StringBuilder();
-        for (int lamp = 0; lamp < 10; lamp++) {
-            int n = lamp;
-            text.append(answer(() -> plot.where(n))).append(' ');
-            text.append(answer(() -> plot.level(n))).append(' ');
-            text.append(answer(() -> plot.wanted(n))).append(' ');
-            text.append(answer(() -> plot.wantedByCues(n))).append('\n');
-        }
-        for (int bar = 0; bar < 4; bar++) {
-            for (int rank = 0; rank < 10; rank++) {
-                int b = bar;
-                int r = rank;
-                text.append(answer(() -> plot.onBar(b, r))).append(' ');
-            }
-            int circuit = bar;
-            text.append(plot.load(circuit)).append('\n');
-        }
-        for (int many = 1; many <= 100; many++) {
-            text.append(plot.gap(many)).append(' ');
-        }
-        return text.append(plot.burnt()).toString();
     }
 
     static void finish(String test) {

@@ -44,13 +44,13 @@ public final class CuesTest {
 
     private static void cues() {
         PlotPatch plot = withLamps(1);
-        Check.refused(ARGUMENT, plot, "13: fade -1", () -> plot.cue(-1, 0, 0));
-        Check.refused(ARGUMENT, plot, "13: fade 51", () -> plot.cue(51, 0, 0));
-        Check.refused(ARGUMENT, plot, "13: curve -1", () -> plot.cue(0, -1, 0));
-        Check.refused(ARGUMENT, plot, "13: curve 3", () -> plot.cue(0, 3, 0));
-        Check.refused(ARGUMENT, plot, "13: follow -2", () -> plot.cue(0, 0, -2));
-        Check.refused(ARGUMENT, plot, "13: follow 51", () -> plot.cue(0, 0, 51));
-        Check.refused(STATE, plot, "13: there is none yet", plot::go);
+        Check.refused(ARGUMENT, "13: fade -1", () -> plot.cue(-1, 0, 0));
+        Check.refused(ARGUMENT, "13: fade 51", () -> plot.cue(51, 0, 0));
+        Check.refused(ARGUMENT, "13: curve -1", () -> plot.cue(0, -1, 0));
+        Check.refused(ARGUMENT, "13: curve 3", () -> plot.cue(0, 3, 0));
+        Check.refused(ARGUMENT, "13: follow -2", () -> plot.cue(0, 0, -2));
+        Check.refused(ARGUMENT, "13: follow 51", () -> plot.cue(0, 0, 51));
+        Check.refused(STATE, "13: there is none yet", plot::go);
         Check.due(0, "13: cue(0, LINEAR, NONE)", () -> plot.cue(0, LINEAR, NONE));
         Check.due(1, "13: cue(50, SNAP, 50)", () -> plot.cue(50, SNAP, 50));
         Check.due(2, "13: cue(0, SLOW, 0)", () -> plot.cue(0, SLOW, 0));
@@ -58,8 +58,8 @@ public final class CuesTest {
             int n = number;
             Check.due(n, "13: cue", () -> plot.cue(1, 1, 1));
         }
-        Check.refused(STATE, plot, "13: a ninth cue", () -> plot.cue(0, 0, 0));
-        Check.refused(ARGUMENT, plot, "13: a ninth cue out of range", () -> plot.cue(51, 0, 0));
+        Check.refused(STATE, "13: a ninth cue", () -> plot.cue(0, 0, 0));
+        Check.refused(ARGUMENT, "13: a ninth cue out of range", () -> plot.cue(51, 0, 0));
         Check.due(0, "13: it names nothing", plot::go);
         wants(plot, 0, 0, "13");
     }
@@ -92,14 +92,14 @@ public final class CuesTest {
         PlotPatch plot = withLamps(1);
         plot.cue(0, 0, NONE);
         plot.name(0, 0, 70);
-        Check.refused(INDEX, plot, "14: cue -1", () -> plot.name(-1, 0, 0));
-        Check.refused(INDEX, plot, "14: cue 1", () -> plot.name(1, 0, 0));
-        Check.refused(INDEX, plot, "14: lamp -1", () -> plot.name(0, -1, 0));
-        Check.refused(INDEX, plot, "14: lamp 1", () -> plot.name(0, 1, 0));
-        Check.refused(INDEX, plot, "14: lamp 1 and level 101", () -> plot.name(0, 1, 101));
-        Check.refused(INDEX, plot, "14: cue 1 and level 101", () -> plot.name(1, 0, 101));
-        Check.refused(ARGUMENT, plot, "14: level 101", () -> plot.name(0, 0, 101));
-        Check.refused(ARGUMENT, plot, "14: level -2", () -> plot.name(0, 0, -2));
+        Check.refused(INDEX, "14: cue -1", () -> plot.name(-1, 0, 0));
+        Check.refused(INDEX, "14: cue 1", () -> plot.name(1, 0, 0));
+        Check.refused(INDEX, "14: lamp -1", () -> plot.name(0, -1, 0));
+        Check.refused(INDEX, "14: lamp 1", () -> plot.name(0, 1, 0));
+        Check.refused(INDEX, "14: lamp 1 and level 101", () -> plot.name(0, 1, 101));
+        Check.refused(INDEX, "14: cue 1 and level 101", () -> plot.name(1, 0, 101));
+        Check.refused(ARGUMENT, "14: level 101", () -> plot.name(0, 0, 101));
+        Check.refused(ARGUMENT, "14: level -2", () -> plot.name(0, 0, -2));
         Check.due(70, "14: it names what it named", () -> plot.name(0, 0, 70));
     }
 
@@ -130,7 +130,7 @@ public final class CuesTest {
         plot.cue(0, 0, NONE);
         Check.due(0, "15: the first one", plot::go);
         Check.due(1, "15: the one behind it", plot::go);
-        Check.refused(STATE, plot, "15: no next one", plot::go);
+        Check.refused(STATE, "15: no next one", plot::go);
         plot.cue(0, 0, NONE);
         Check.due(2, "15: an added one", plot::go);
         Check.due(3, "15: they count as begun", plot::rewind);
@@ -261,9 +261,9 @@ public final class CuesTest {
         plot.cue(50, LINEAR, NONE);
         plot.name(0, 0, 50);
         plot.go();
-        Check.refused(ARGUMENT, plot, "16: tick(0)", () -> plot.tick(0));
-        Check.refused(ARGUMENT, plot, "16: tick(-1)", () -> plot.tick(-1));
-        Check.refused(ARGUMENT, plot, "16: tick(51)", () -> plot.tick(51));
+        Check.refused(ARGUMENT, "16: tick(0)", () -> plot.tick(0));
+        Check.refused(ARGUMENT, "16: tick(-1)", () -> plot.tick(-1));
+        Check.refused(ARGUMENT, "16: tick(51)", () -> plot.tick(51));
         Check.due(0, "16: tick(1)", () -> plot.tick(1));
         wants(plot, 0, 1, "16: one tick");
         Check.due(0, "16: tick(48)", () -> plot.tick(48));

@@ -15,18 +15,18 @@ public final class LanguageTest {
     /** A rule's number and a pattern that no program that keeps to it contains. */
     private static final String[][] FORBIDDEN = {
         {"1", "\\bpackage\\b"},
-        {"2", "->"},
+        {"2", "(?m)^(?!\\s*(case|default)\\b).*->"},
         {"2", "::"},
-        {"3", "\\b(float|double)\\b"},
         {"4", "\\w+Exact\\b"},
         {"4", "\\bSystem\\.(?!arraycopy\\b)"},
-        {"4", "\\bimport\\b(?! java\\.util\\.(Arrays|ArrayList|List|Iterator|NoSuchElementException);)"},
+        {"4", "\\bimport\\b(?! java\\.util\\.(Arrays|ArrayList|List|Iterator|NoSuchElementException|\\*);)"},
         {"5", "\\bstatic (?!final )[^(\\n]*;"},
         {"5", "\\bstatic \\{"},
-        {"6", "\\b(try|catch|finally|synchronized|assert|instanceof)\\b"},
-        {"6", "\\bthrow (?!new (IllegalStateException|IllegalArgumentException|IndexOutOfBoundsException)\\(\"[^\"]*\"\\);)"},
-        {"6", "\\b(equals|hashCode|toString)\\b"},
-        {"9", "\\bwhile\\b|\\bfor \\(;"},
+        {"6", "\\b(finally|synchronized|assert|getMessage|hashCode)\\b"},
+        {"6", "\\b(boolean equals|String toString)\\("},
+        {"6", "\\bthrow (?!new (IllegalState|IllegalArgument|IndexOutOfBounds|Arithmetic|UnsupportedOperation"
+                + "|NoSuchElement|Runtime)Exception\\((\"[^\"]*\")?\\);)"},
+        {"7", "\\bcatch \\((ArrayIndexOutOfBounds|NullPointer|ClassCast|NegativeArraySize|ArrayStore)"},
         {"10", "\"\\s*\\+|\\+\\s*\""},
     };
 

@@ -63,15 +63,15 @@ public final class LevelsTest {
         PlotPatch plot = lit(2, 64);
         plot.go();
         for (int lamp : new int[] {-1, 2, 10, Integer.MIN_VALUE, Integer.MAX_VALUE}) {
-            Check.refused(INDEX, plot, "18: level(" + lamp + ")", () -> plot.level(lamp));
-            Check.refused(INDEX, plot, "19: wanted(" + lamp + ")", () -> plot.wanted(lamp));
-            Check.refused(INDEX, plot, "20: wantedByCues(" + lamp + ")", () -> plot.wantedByCues(lamp));
-            Check.refused(INDEX, plot, "21: bulb(" + lamp + ")", () -> plot.bulb(lamp));
-            Check.refused(INDEX, plot, "22: standIn(" + lamp + ", 0)", () -> plot.standIn(lamp, 0));
-            Check.refused(INDEX, plot, "22: standIn(0, " + lamp + ")", () -> plot.standIn(0, lamp));
-            Check.refused(INDEX, plot, "22: standIn of one none", () -> plot.standIn(lamp, lamp));
-            Check.refused(INDEX, plot, "23: colour(" + lamp + ", 0)", () -> plot.colour(lamp, 0));
-            Check.refused(INDEX, plot, "23: colour of none, out of range", () -> plot.colour(lamp, 21));
+            Check.refused(INDEX, "18: level(" + lamp + ")", () -> plot.level(lamp));
+            Check.refused(INDEX, "19: wanted(" + lamp + ")", () -> plot.wanted(lamp));
+            Check.refused(INDEX, "20: wantedByCues(" + lamp + ")", () -> plot.wantedByCues(lamp));
+            Check.refused(INDEX, "21: bulb(" + lamp + ")", () -> plot.bulb(lamp));
+            Check.refused(INDEX, "22: standIn(" + lamp + ", 0)", () -> plot.standIn(lamp, 0));
+            Check.refused(INDEX, "22: standIn(0, " + lamp + ")", () -> plot.standIn(0, lamp));
+            Check.refused(INDEX, "22: standIn of one none", () -> plot.standIn(lamp, lamp));
+            Check.refused(INDEX, "23: colour(" + lamp + ", 0)", () -> plot.colour(lamp, 0));
+            Check.refused(INDEX, "23: colour of none, out of range", () -> plot.colour(lamp, 21));
         }
     }
 
@@ -143,13 +143,13 @@ public final class LevelsTest {
 
     private static void standInWrong() {
         PlotPatch plot = lit(3, 30);
-        Check.refused(STATE, plot, "22: it lives", () -> plot.standIn(0, 1));
-        Check.refused(ARGUMENT, plot, "22: itself, alive", () -> plot.standIn(0, 0));
+        Check.refused(STATE, "22: it lives", () -> plot.standIn(0, 1));
+        Check.refused(ARGUMENT, "22: itself, alive", () -> plot.standIn(0, 0));
         plot.bulb(0);
-        Check.refused(ARGUMENT, plot, "22: itself, dead", () -> plot.standIn(0, 0));
-        Check.refused(STATE, plot, "22: the other way round", () -> plot.standIn(1, 0));
+        Check.refused(ARGUMENT, "22: itself, dead", () -> plot.standIn(0, 0));
+        Check.refused(STATE, "22: the other way round", () -> plot.standIn(1, 0));
         plot.bulb(1);
-        Check.refused(STATE, plot, "22: both are dead", () -> plot.standIn(0, 1));
+        Check.refused(STATE, "22: both are dead", () -> plot.standIn(0, 1));
         Check.due(30, "22: named as before", () -> plot.name(0, 0, 30));
         Check.due(30, "22: named as before", () -> plot.name(0, 1, 30));
         Check.due(1, "22: the living one", () -> plot.standIn(0, 2));
@@ -160,15 +160,15 @@ public final class LevelsTest {
         Check.due(0, "23: the first colour", () -> plot.colour(0, 20));
         Check.due(20, "23: the colour before", () -> plot.colour(0, 0));
         Check.due(1, "23: the other one's", () -> plot.colour(1, 1));
-        Check.refused(ARGUMENT, plot, "23: colour -1", () -> plot.colour(0, -1));
-        Check.refused(ARGUMENT, plot, "23: colour 21", () -> plot.colour(0, 21));
+        Check.refused(ARGUMENT, "23: colour -1", () -> plot.colour(0, -1));
+        Check.refused(ARGUMENT, "23: colour 21", () -> plot.colour(0, 21));
         Check.due(0, "23: as it was", () -> plot.colour(0, 0));
         plot.go();
         plot.tick(29);
         Check.due(1, "23: the same colour anew", () -> plot.colour(1, 1));
         plot.tick(1);
         Check.due(1, "23: only the old one is burnt", plot::burnt);
-        Check.refused(ARGUMENT, plot, "23: burnt, colour 21", () -> plot.colour(0, 21));
+        Check.refused(ARGUMENT, "23: burnt, colour 21", () -> plot.colour(0, 21));
         plot.tick(28);
         Check.due(1, "23: 29 ticks", plot::burnt);
         plot.tick(1);

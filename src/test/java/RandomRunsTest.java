@@ -2,20 +2,26 @@ import java.util.Random;
 
 /** Promises 1 to 24: long runs of drawn calls, right and wrong ones, against the Model. */
 public final class RandomRunsTest {
-    private static final int RUNS = 1500;
+    private static final int RUNS = 20000;
+    /** An object is good for so many calls, and no more are asked of it. */
     private static final int CALLS = 512;
+    private static final int LOOKS = 45;
     private static final int[] ODD = {Integer.MIN_VALUE, -1001, -2, -1, 0, 1, 2, 3, 4, 7, 8, 9, 10, 20, 21,
         50, 51, 100, 101, 500, 501, Integer.MAX_VALUE};
 
     private final Random random;
     /** Of a thousand numbers, so many are drawn from anywhere. */
     private final int wild;
+    /** After each step fewer than so many things are looked at. */
+    private final int looks;
+    private int calls = 0;
     private PlotPatch plot;
     private Model model;
 
     private RandomRunsTest(long seed) {
         random = new Random(seed);
         wild = random.nextInt(60);
+        looks = 1 + random.nextInt(8);
         plot = new PlotPatch();
         model = new Model();
     }
@@ -32,9 +38,14 @@ public final class RandomRunsTest {
         if (rigged) {
             rig(run);
         }
-        for (int call = 0; call < CALLS; call++) {
-            step(run + " call " + call, random.nextInt(23));
-            look(run + " after call " + call);
+        while (calls + looks + LOOKS < CALLS) {
+            step(run + " call " + calls, random.nextInt(23));
+            for (int k = random.nextInt(looks); k > 0; k--) {
+                look(run + " after call " + calls, random.nextInt(LOOKS));
+            }
+        }
+        for (int what = 0; what < LOOKS; what++) {
+            look(run + " at the end", what);
         }
     }
 
@@ -60,6 +71,7 @@ public final class RandomRunsTest {
     }
 
     private void same(String what, Check.Call got, Check.Call want) {
+        calls++;
         Check.due(Check.answer(want), what, got);
     }
 
@@ -137,19 +149,20 @@ public final class RandomRunsTest {
         }
     }
 
-    /** What can be seen is the same all over, after calls that threw too. */
-    private void look(String run) {
-        for (int lamp = 0; lamp < 10; lamp++) {
-            int n = lamp;
-            same(run + ": where(" + n + ")", () -> plot.where(n), () -> model.where(n));
-            same(run + ": level(" + n + ")", () -> plot.level(n), () -> model.level(n));
-            same(run + ": wanted(" + n + ")", () -> plot.wanted(n), () -> model.wanted(n));
-            same(run + ": wantedByCues(" + n + ")", () -> plot.wantedByCues(n), () -> model.wanted(n));
+    /** One of the things that calls show that change nothing, after calls that threw too. */
+    private void look(String run, int what) {
+        int n = what / 4;
+        if (what < 40) {
+            switch (what % 4) {
+                case 0: same(run + ": where(" + n + ")", () -> plot.where(n), () -> model.where(n)); break;
+                case 1: same(run + ": level(" + n + ")", () -> plot.level(n), () -> model.level(n)); break;
+                case 2: same(run + ": wanted(" + n + ")", () -> plot.wanted(n), () -> model.wanted(n)); break;
+                default: same(run + ": wantedByCues(" + n + ")", () -> plot.wantedByCues(n), () -> model.wanted(n));
+            }
+        } else if (what < 44) {
+            same(run + ": load(" + (what - 40) + ")", () -> plot.load(what - 40), () -> model.load(what - 40));
+        } else {
+            same(run + ": burnt()", () -> plot.burnt(), () -> model.burnt());
         }
-        for (int circuit = 0; circuit < 4; circuit++) {
-            int n = circuit;
-            same(run + ": load(" + n + ")", () -> plot.load(n), () -> model.load(n));
-        }
-        same(run + ": burnt()", () -> plot.burnt(), () -> model.burnt());
     }
 }
